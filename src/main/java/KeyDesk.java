@@ -13,7 +13,6 @@ public final class KeyDesk {
 
     private static final int TAPE_MOST = 200;
     private static final int FEED = 20;
-    private static final int FIGURES = 10;
 
     // The numbers of a plan, in the order in which the document tells them.
     private static final int SIGNALS = 0;
@@ -120,7 +119,7 @@ public final class KeyDesk {
         if (told < 0) {
             return told;
         }
-        plan.takeFrom(reader.read);
+        plan.takeFrom(reader.result);
         now.clear();
         history.clear();
         Arrays.fill(imaged, 0);
@@ -473,10 +472,11 @@ public final class KeyDesk {
         private static final int WRONG_BYTE = 1;
         private static final int WRONG_NUMBER = 2;
         private static final int TOLD_ALREADY = 3;
+        private static final int TEN = 10;
         // More than any number may be: further digits change nothing then.
         private static final int TOO_GREAT = 1000000;
 
-        private final Plan read = new Plan();
+        private final Plan result = new Plan();
         private final int[] told = new int[SETTINGS];
         private int[] text = new int[0];
         private int length = 0;
@@ -487,7 +487,7 @@ public final class KeyDesk {
             text = newText;
             length = Math.min(newLength, newText.length);
             at = 0;
-            read.clear();
+            result.clear();
             Arrays.fill(told, 0);
             // No word is told twice, so a line more than there are words is always a fault.
             for (int lines = 1; lines <= SETTINGS + 1; lines++) {
@@ -530,7 +530,7 @@ public final class KeyDesk {
             if (number < LEAST[word] || number > MOST[word]) {
                 return faultAt(begin, WRONG_NUMBER);
             }
-            read.put(word, number);
+            result.put(word, number);
             return 0;
         }
 
@@ -572,7 +572,7 @@ public final class KeyDesk {
         private int numberAlong(int begin, int end) {
             int number = 0;
             for (int k = begin; k < end; k++) {
-                number = Math.min(FIGURES * number + text[k] - '0', TOO_GREAT);
+                number = Math.min(TEN * number + text[k] - '0', TOO_GREAT);
             }
             return number;
         }

@@ -30,6 +30,17 @@ public final class ModelRunsTest {
             + dice.between(1, 6) + ";safe " + dice.below(4);
     }
 
+    /** Leaves as many bits as can be: final keys that the ledger and the spy know a part of. */
+    private static String tightPlan(Dice dice) {
+        return "signals 256;seed " + dice.below(1000) + ";noise " + dice.of(0, 0, 10, 20) + ";spy "
+            + dice.of(0, 5, 20, 100) + ";sample " + dice.of(0, 90, 105, 115) + ";block " + dice.of(16, 33, 64)
+            + ";passes " + dice.between(1, 2) + ";hash " + dice.between(1, 2) + ";safe 0";
+    }
+
+    private static String plan(Dice dice) {
+        return dice.oneIn(3) ? somePlan(dice) : dice.oneIn(2) ? tightPlan(dice) : quietPlan(dice);
+    }
+
     private static String spoilt(Dice dice, String text) {
         StringBuilder s = new StringBuilder(text);
         for (int k = dice.below(3); k >= 0 && s.length() > 0; k--) {
@@ -48,7 +59,7 @@ public final class ModelRunsTest {
         Dice dice = new Dice(number);
         Pair pair = new Pair();
         if (!dice.oneIn(12)) {
-            pair.plan(dice.oneIn(3) ? somePlan(dice) : quietPlan(dice));
+            pair.plan(plan(dice));
         }
         // Ahead enough for the later stages to be met often.
         if (dice.oneIn(2)) {
@@ -70,7 +81,7 @@ public final class ModelRunsTest {
                     pair.tryOut(dice);
                 }
             } else if (dice.oneIn(6)) {
-                pair.plan(dice.oneIn(2) ? spoilt(dice, quietPlan(dice)) : quietPlan(dice));
+                pair.plan(dice.oneIn(2) ? spoilt(dice, quietPlan(dice)) : plan(dice));
             }
             if (k % 40 == 39) {
                 pair.lookAtAll();
@@ -97,18 +108,18 @@ public final class ModelRunsTest {
     private static boolean whole(int number) {
         Dice dice = new Dice(1000 + number);
         Pair pair = new Pair();
-        pair.plan(quietPlan(dice));
+        pair.plan(dice.oneIn(2) ? tightPlan(dice) : quietPlan(dice));
         pair.same("begin()", pair.desk.begin(), pair.model.begin());
         pair.same("sample()", pair.desk.sample(), pair.model.sample());
         for (int what = 0; what < 2; what++) {
             pair.same("best", pair.desk.best(what), pair.model.best(what));
         }
         for (int p = 0; p < 7; p++) {
-            if (dice.oneIn(3)) {
-                int place = dice.below(pair.desk.count(1));
+            if (dice.oneIn(4)) {
+                int place = dice.below(Math.max(1, pair.desk.count(1)));
                 pair.same("slip", pair.desk.slip(place), pair.model.slip(place));
             }
-            if (dice.oneIn(5)) {
+            if (dice.oneIn(9)) {
                 pair.same("winnow", pair.desk.winnow(), pair.model.winnow());
             }
             for (int what = 0; what < 2; what++) {
@@ -120,6 +131,7 @@ public final class ModelRunsTest {
         pair.same("check", pair.desk.check(), pair.model.check());
         pair.same("shorten", pair.desk.shorten(), pair.model.shorten());
         pair.lookAtAll();
+        otherwise(pair, dice);
         for (int k = 0; k < 20; k++) {
             pair.same("send", pair.desk.send(k * 12), pair.model.send(k * 12));
             pair.same("cipher", pair.desk.count(15), pair.model.count(15));
@@ -131,6 +143,36 @@ public final class ModelRunsTest {
         }
         pair.lookAtAll();
         return !pair.wrong;
+    }
+
+    /** Begins anew, and comes back by an image and by undoing: nothing of the old may be lost. */
+    private static void otherwise(Pair pair, Dice dice) {
+        pair.same("image", pair.desk.image(0), pair.model.image(0));
+        for (int round = 0; round < 2; round++) {
+            int acts = 5;
+            pair.same("begin", pair.desk.begin(), pair.model.begin());
+            pair.same("slip", pair.desk.slip(0), pair.model.slip(0));
+            pair.same("sample", pair.desk.sample(), pair.model.sample());
+            pair.same("winnow", pair.desk.winnow(), pair.model.winnow());
+            pair.same("check", pair.desk.check(), pair.model.check());
+            if (pair.desk.count(0) == 4) {
+                acts++;
+                pair.same("shorten", pair.desk.shorten(), pair.model.shorten());
+            }
+            if (round == 0) {
+                pair.same("back", pair.desk.back(0), pair.model.back(0));
+            } else if (pair.desk.count(1) > 0) {
+                for (int k = 0; k < acts; k++) {
+                    pair.same("undo", pair.desk.undo(), pair.model.undo());
+                }
+            }
+            pair.lookAtAll();
+        }
+        int m = dice.between(1, 20);
+        for (int what = 0; what < 3; what++) {
+            pair.same("seeds", pair.desk.seeds(m, what), pair.model.seeds(m, what));
+        }
+        pair.same("back", pair.desk.back(0), pair.model.back(0));
     }
 
     public static void main(String[] args) {

@@ -886,6 +886,61 @@ public final class PromiseTest {
         due("20: nothing changes", spied.rank(), 1);
     }
 
+    /** What stays of 11, 7, .. bits, of which the ledger, or the spy, gives some away. */
+    private static void secretLess() {
+        int[][] due = {{0, 97, 11, 8, 8}, {0, 10, 12, 10, 10}, {20, 4, 2, 2, 1}, {20, 19, 3, 2, 1},
+            {20, 42, 23, 22, 21}, {20, 111, 18, 18, 15}};
+        for (int[] one : due) {
+            KeyDesk d = sampled("signals 256;seed " + one[1] + ";noise 0;spy " + one[0]
+                + ";sample 105;block 64;passes 1;hash 1;safe 0");
+            d.check();
+            due("25: length", d.shorten(), one[2]);
+            due("25: secret", d.secret(false), one[3]);
+            due("25: secret from E", d.secret(true), one[4]);
+        }
+    }
+
+    /** A begin writes over what was: undone, or by an image, all of it is there again. */
+    private static void comesBack() {
+        KeyDesk d = shortened(WHOLE);
+        String all = everything(d);
+        d.image(0);
+        for (int k = 0; k < 5; k++) {
+            act(d, k);
+        }
+        d.slip(3);
+        d.winnow();
+        d.check();
+        for (int k = 0; k < 8; k++) {
+            d.undo();
+        }
+        due("16: all is as ahead of it", everything(d), all);
+        d.begin();
+        d.slip(0);
+        d.sample();
+        d.winnow();
+        d.pass();
+        d.back(0);
+        due("32: all is as in it", everything(d), all);
+    }
+
+    private static String everything(KeyDesk d) {
+        StringBuilder s = new StringBuilder();
+        for (int what = 0; what <= 16; what++) {
+            s.append(what == 11 ? 0 : d.count(what)).append(' ');
+        }
+        for (int k = 0; k < 256; k++) {
+            for (int what = 0; what < 6; what++) {
+                s.append(d.signal(k, what)).append(d.order(what, k)).append(d.ledger(k, what));
+            }
+            s.append(d.key(0, k)).append(d.key(1, k)).append(d.last(0, k)).append(d.last(1, k)).append(d.spied(k));
+            for (int place = 0; place < 256; place++) {
+                s.append(d.isIn(k, place));
+            }
+        }
+        return s.append(d.secret(false)).append(d.secret(true)).append(d.fixed(NONE)).toString();
+    }
+
     private static void promise26() {
         KeyDesk d = desk(WHOLE);
         d.begin();
@@ -940,6 +995,13 @@ public final class PromiseTest {
         KeyDesk two = sampled("signals 256;seed 7;noise 0;sample 0;passes 1");
         int n = two.count(1);
         due("27: least that needs as few", two.best(0), (n + (n + 63) / 64 - 1) / ((n + 63) / 64));
+        for (int seed = 0; seed < 60; seed++) {
+            KeyDesk full = sampled("signals 128;seed " + seed + ";noise 0;sample 0;passes 1");
+            if (full.count(1) == 64) {
+                due("27: the greatest block", full.best(0), 64);
+                due("27: one block of all", full.best(1), 1);
+            }
+        }
         KeyDesk never = sampled("signals 40;seed 7;noise 0;sample 0;passes 1");
         never.slip(0);
         never.slip(1);
@@ -966,10 +1028,17 @@ public final class PromiseTest {
         for (int[] pair : none) {
             due("28: none", d.seeds(pair[0], pair[1]), NONE);
         }
-        KeyDesk rough = desk("signals 256;noise 10;sample 40;block 64;passes 1;hash 1;safe 0;seed 99990");
-        int ended = rough.seeds(20, 0);
-        int unlike = rough.seeds(20, 1);
-        due("28: some come by unlike", unlike > 0 && unlike <= ended, true);
+        KeyDesk rough = new KeyDesk();
+        feed(rough, "signals 256;seed 99990;noise 60;sample 40;block 64;passes 1;hash 1;safe 0");
+        rough.plan();
+        due("28: seeds above the greatest one", rough.seeds(20, 0) > rough.seeds(10, 0), true);
+        int unlike = 0;
+        for (int k = 0; k < 10; k++) {
+            KeyDesk e = shortened("signals 256;seed " + (99990 + k) + ";noise 60;sample 40;block 64;passes 1;hash 1;safe 0");
+            unlike += e.count(0) == 5 && !alikeAtLast(e) ? 1 : 0;
+        }
+        due("28: some come by unlike", rough.seeds(10, 1), unlike);
+        due("28: one at least", unlike > 0, true);
     }
 
     private static void promise29() {
@@ -977,6 +1046,8 @@ public final class PromiseTest {
         due("29: one", d.noise(1), 40);
         due("29: three", d.noise(3), 30);
         due("29: by none", d.noise(20), -2);
+        due("29: by 0 alone",
+            desk("signals 256;seed 3;sample 60;block 32;passes 2;hash 12;safe 5").noise(8), 0);
         due("29: 0", d.noise(0), NONE);
         due("29: 21", d.noise(21), NONE);
         due("29: nothing changes", d.setting(2), 30);
@@ -1091,6 +1162,7 @@ public final class PromiseTest {
         promise14();
         promise15();
         promise16();
+        comesBack();
         promise17();
         promise18and19();
         promise20and21();
@@ -1098,6 +1170,7 @@ public final class PromiseTest {
         promise23();
         promise24();
         promise25();
+        secretLess();
         promise26();
         promise27();
         promise28();
