@@ -516,18 +516,25 @@ public final class ActsEdgesTest extends Desks {
     @Sentence(promise = 11, words = "for i from 0 to hash - 1 the PARITY of KEY and ROW (PLACE k of the KEY with BIT i + k of"
         + " the ROW: of PLACES where both are 1) is told aloud;")
     static void p11_parities() {
-        KeyDesk d = sampled(planWith(20, "sample 0;hash 5"));
-        int[] row = drawsOf(d).row(24);
-        d.check();
-        due("as many as hash", d.count(4), 5);
-        for (int i = 0; i < 5; i++) {
-            int parity = 0;
-            for (int k = 0; k < 20; k++) {
-                parity ^= row[i + k] & d.key(0, k);
-                due("place " + k + " in parity " + i, d.isIn(i, k), row[i + k]);
+        int[] places = {20, 65, 130};
+        for (int n : places) {
+            KeyDesk d = sampled(planWith(n, "sample 0;hash 3"));
+            int[] row = drawsOf(d).row(n + 2);
+            d.check();
+            due("as many as hash", d.count(4), 3);
+            for (int i = 0; i < 3; i++) {
+                int parity = 0;
+                for (int k = 0; k < n; k++) {
+                    parity ^= row[i + k] & d.key(0, k);
+                    due("place " + k + " in parity " + i, d.isIn(i, k), row[i + k]);
+                }
+                due("parity " + i, d.ledger(i, 0), parity);
             }
-            due("parity " + i, d.ledger(i, 0), parity);
         }
+    }
+
+    @Sentence(promise = 11, words = "for i from 0 to hash - 1 the PARITY")
+    static void p11_asManyAsHash() {
         KeyDesk one = sampled(planWith(20, "sample 0;hash 1"));
         one.check();
         due("hash 1", one.count(4), 1);
@@ -832,24 +839,23 @@ public final class ActsEdgesTest extends Desks {
 
     @Sentence(promise = 16, words = "The last 12 can be UNDONE, the last first:")
     static void p16_theLast12() {
-        for (int acts = 11; acts <= 14; acts++) {
+        int[] many = {11, 12, 13, 14, 23, 24, 25, 36, 37};
+        for (int acts : many) {
             KeyDesk d = begun(planWith(20, "sample 0"));
             List<String> ahead = new ArrayList<>();
-            for (int k = 0; k < acts - 1; k++) {
+            ahead.add("");
+            for (int k = 1; k < acts; k++) {
                 ahead.add(keyOf(d, 1));
-                d.slip(k);
+                d.slip(k * 7 % 20);
             }
             due("as many can be", d.count(11), Math.min(acts, 12));
             int undone = 0;
             while (undone < 20 && d.undo() != NONE) {
                 undone++;
-                if (undone <= ahead.size()) {
-                    due("the last first", keyOf(d, 1), ahead.get(ahead.size() - undone));
-                }
+                due("the last first, of " + acts, keyOf(d, 1), ahead.get(acts - undone));
             }
             due("undone of " + acts, undone, Math.min(acts, 12));
             due("stage behind " + acts, d.count(0), acts <= 12 ? 0 : 1);
-            due("slips that stay of " + acts, d.count(2), Math.max(0, acts - 13));
         }
     }
 
@@ -875,7 +881,7 @@ public final class ActsEdgesTest extends Desks {
 
     @Sentence(promise = 16, words = "all is as ahead of it (x, too).")
     static void p16_allIsAsAheadOfIt() {
-        String[] acts = {"begin", "sample", "slip", "pass", "winnow", "pass", "slip", "winnow", "begin", "sample", "check",
+        String[] acts = {"begin", "sample", "slip", "pass", "winnow", "begin", "sample", "winnow", "pass", "pass", "check",
             "shorten"};
         KeyDesk d = desk(planWith(40, FORTY));
         List<String> ahead = new ArrayList<>();
@@ -919,6 +925,56 @@ public final class ActsEdgesTest extends Desks {
         g.begin();
         g.undo();
         due("the final keys are there again", seen(g), seen(at(5)));
+    }
+
+    @Sentence(promise = 16, words = "all is as ahead of it (x, too).")
+    static void p16_whatASampleTookIsThereAgain() {
+        KeyDesk d = begun("signals 80;seed 9;noise 100;spy 50;sample 30");
+        String at = lasting(d);
+        d.image(0);
+        d.sample();
+        due("it took some", lasting(d).equals(at), false);
+        d.undo();
+        due("undone", lasting(d), at);
+        d.sample();
+        d.back(0);
+        due("back", lasting(d), at);
+    }
+
+    private static String secrets(KeyDesk d) {
+        return lasting(d) + d.secret(false) + " " + d.secret(true);
+    }
+
+    private static void actAll(KeyDesk d, String[] acts) {
+        for (String act : acts) {
+            act(d, act);
+        }
+    }
+
+    @Sentence(promise = 16, words = "all is as ahead of it (x, too).")
+    static void p16_whatWasWrittenOverIsAsAheadOfIt() {
+        // Two passes more, and other rows are drawn for the check and for the final keys.
+        String[] acts = {"begin", "sample", "pass", "pass", "check", "shorten"};
+        int less = 0;
+        for (int seed = 0; seed < 40; seed++) {
+            KeyDesk d = sampled("signals 256;noise 0;sample 105;block 64;passes 2;hash 1;safe 0;seed " + seed);
+            if (d.check() == 0 || d.shorten() == 0) {
+                continue;
+            }
+            String at = secrets(d);
+            less += d.secret(true) < d.count(7) ? 1 : 0;
+            d.image(0);
+            int before = d.count(11);
+            actAll(d, acts);
+            for (int k = d.count(11); k > before; k--) {
+                d.undo();
+            }
+            due("undone, seed " + seed, secrets(d), at);
+            actAll(d, acts);
+            d.back(0);
+            due("back, seed " + seed, secrets(d), at);
+        }
+        due("some had less secret than their length", less > 0, true);
     }
 
     @Sentence(promise = 16, words = "NONE, and nothing happens, if none can.")

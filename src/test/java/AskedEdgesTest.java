@@ -1,3 +1,4 @@
+import java.math.BigInteger;
 import java.util.ArrayList;
 import java.util.HashSet;
 import java.util.List;
@@ -351,15 +352,45 @@ public final class AskedEdgesTest extends Desks {
         KeyDesk none = sampled(alikeFrom(0, "hash 5"));
         none.check();
         due("of no place", none.rank(), 0);
-        KeyDesk many = sampled(alikeFrom(128, "block 2;passes 6;hash 30"));
-        for (int place = 0; place < 128; place++) {
-            many.slip(place);
+    }
+
+    /** By elimination, each set a number of n bits: for sets of too many sums to be counted. */
+    private static int rankOf(KeyDesk d) {
+        List<BigInteger> rows = new ArrayList<>();
+        for (int k = 0; k < d.count(4); k++) {
+            BigInteger set = BigInteger.ZERO;
+            for (int place = 0; place < d.count(1); place++) {
+                set = d.isIn(k, place) == 1 ? set.setBit(place) : set;
+            }
+            for (BigInteger row : rows) {
+                set = set.min(set.xor(row));
+            }
+            if (set.signum() != 0) {
+                rows.add(set);
+            }
         }
-        for (int pass = 0; pass < 6; pass++) {
-            many.pass();
+        return rows.size();
+    }
+
+    @Sentence(promise = 20, words = "RANK.")
+    static void p20_manyPlaces() {
+        int[] blocks = {2, 5, 64};
+        for (int block : blocks) {
+            KeyDesk d = sampled("signals 256;seed 12;noise 300;sample 0;hash 30;passes 6;block " + block);
+            due("more than 128 places", d.count(1) > 128, true);
+            for (int pass = 0; pass < 6; pass++) {
+                d.pass();
+                due("rank by blocks of " + block, d.rank(), rankOf(d));
+            }
+            d.check();
+            int rank = d.rank();
+            due("behind a check by " + block, rank, rankOf(d));
+            due("no more than places", rank <= d.count(1), true);
+            for (int k = 0; k < 6; k++) {
+                d.undo();
+                due("undone", d.rank(), rankOf(d));
+            }
         }
-        many.check();
-        due("no more than places", many.rank() <= 128, true);
     }
 
     @Sentence(promise = 21, words = "FIXED is a PLACE, if its BIT alone comes of PARITIES of the LEDGER.")
@@ -394,9 +425,24 @@ public final class AskedEdgesTest extends Desks {
         due("3", d.fixed(3), 0);
         due("4, the last", d.fixed(4), 1);
         due("how many", d.fixed(NONE), 3);
+        d.undo();
+        due("undone, none", d.fixed(NONE), 0);
+        due("undone, not 0", d.fixed(0), 0);
         KeyDesk all = sampled(alikeFrom(5, "hash 30"));
         all.check();
         due("all", all.fixed(NONE), 5);
+        KeyDesk many = sampled(alikeFrom(130, "block 2"));
+        int[] slips = {0, 63, 64, 65, 128};
+        for (int place : slips) {
+            many.slip(place);
+        }
+        many.pass();
+        // 64 and 65 in one block are both unlike: it is not halved.
+        for (int place = 0; place < 130; place++) {
+            boolean halved = place / 2 == 0 || place / 2 == 31 || place / 2 == 64;
+            due("place " + place + " of many", many.fixed(place), halved ? 1 : 0);
+        }
+        due("how many of many", many.fixed(NONE), 6);
     }
 
     @Sentence(promise = 21, words = "NONE without these.")
@@ -502,9 +548,11 @@ public final class AskedEdgesTest extends Desks {
             KeyDesk d = begun("signals 2;seed " + seed + ";spy 100");
             Draws draws = new Draws(seed);
             int[] first = draws.signal(30, 100);
+            int[] second = draws.signal(30, 100);
             if (first[5] == 1) {
-                due("the only signal that is surely there", d.spied(0), first[6]);
+                due("place 0", d.spied(0), first[6]);
             }
+            due("how many of two", d.spied(NONE), (first[5] & first[6]) + (second[5] & second[6]));
         }
         KeyDesk d = at(6);
         due("at stage 6, too", d.spied(0), 0);
@@ -929,11 +977,14 @@ public final class AskedEdgesTest extends Desks {
         for (int seed = 0; seed < 40; seed++) {
             int due = greatest(rest, seed, 1);
             int kind = due == 500 ? 0 : due == -2 ? 1 : 2;
-            if (met[kind]++ < 3) {
-                due("seed " + seed, desk(rest + ";noise 9;seed " + seed).noise(1), due);
-            }
+            met[kind]++;
+            due("seed " + seed, desk(rest + ";noise 9;seed " + seed).noise(1), due);
         }
         due("500, none and others were met", met[0] > 0 && met[1] > 0 && met[2] > 0, true);
+        String by0 = "signals 256;spy 0;sample 90;block 32;passes 3;hash 2;safe 0";
+        due("by 0 alone", desk(by0 + ";noise 50;seed 3").noise(5), 0);
+        due("by 0", allAlike(by0, 3, 5, 0), true);
+        due("not by 10", allAlike(by0, 3, 5, 10), false);
     }
 
     @Sentence(promise = 29, words = "all m of these come to STAGE 5,")

@@ -588,6 +588,11 @@ public final class MendingEdgesTest extends Desks {
         due("bit 0", setOf(d, 2), "0000000001010101");
         due("bit 1", setOf(d, 3), "0000000000110011");
         due("bit 2", setOf(d, 4), "0000000000001111");
+        KeyDesk far = sampled(alikeFrom(130, "block 2"));
+        far.slip(121);
+        due("in the last eight of 130", far.winnow(), 1);
+        dueLedger("behind those ahead of it", far, 15, "8 -2 120", "4 -2 121", "4 -2 122", "4 -2 124");
+        due("bit 2", setOf(far, 18), "0".repeat(124) + "111100");
         KeyDesk two = sampled(alikeFrom(16, "block 2"));
         two.slip(0);
         two.slip(1);

@@ -286,6 +286,8 @@ public final class PlanEdgesTest extends Desks {
         due("up to a digit", planOf("seed1"), 1);
         due("a letter more", planOf("seeds 1"), fault(0, 1));
         due("a letter less", planOf("see 1"), fault(0, 1));
+        due("another first letter", planOf("need 1"), fault(0, 1));
+        due("another last letter", planOf("seem 1"), fault(0, 1));
         due("two in one", planOf("seedspy 1"), fault(0, 1));
         due("a blank within", planOf("se ed 1"), fault(0, 1));
         due("great letters", planOf("SEED 1"), fault(0, 1));

@@ -1,8 +1,5 @@
-import java.util.Objects;
-
 /** Each promise by itself: ordinary inputs, the edges that the document names, wrong inputs. */
-public final class PromiseTest {
-    private static final int NONE = KeyDesk.NONE;
+public final class PromiseTest extends Desks {
     /** 21 places, no noise, nothing sampled, pass 0 in fours. */
     private static final String QUIET =
         "signals 40;seed 7;noise 0;sample 0;block 4;passes 3;hash 1;safe 0";
@@ -11,72 +8,6 @@ public final class PromiseTest {
         "signals 256;seed 5;noise 30;spy 20;sample 20;block 8;passes 4;hash 8;safe 2";
     /** Comes to no place at all. */
     private static final String EMPTY = "signals 2;seed 0;noise 0;sample 0;block 2;passes 1;hash 1;safe 0";
-
-    private static int wrong = 0;
-
-    private static void due(String what, Object got, Object due) {
-        if (!Objects.equals(got, due)) {
-            wrong++;
-            System.out.println(what + " answered " + got + ", due is " + due);
-        }
-    }
-
-    private static void feed(KeyDesk d, String text) {
-        int had = d.count(12);
-        for (int i = 0; i < text.length(); i += 20) {
-            int[] n = new int[5];
-            for (int k = 0; k < 20; k++) {
-                int b = i + k < text.length() ? text.charAt(i + k) : 0;
-                n[k / 4] = n[k / 4] << 8 | b;
-            }
-            d.feed(n[0], n[1], n[2], n[3], n[4]);
-        }
-        d.end(had + text.length());
-    }
-
-    private static int planOf(String text) {
-        KeyDesk d = new KeyDesk();
-        feed(d, text);
-        return d.plan();
-    }
-
-    private static KeyDesk desk(String text) {
-        KeyDesk d = new KeyDesk();
-        feed(d, text);
-        if (d.plan() < 1) {
-            due("the plan " + text, "a fault", "none");
-        }
-        return d;
-    }
-
-    private static KeyDesk sampled(String text) {
-        KeyDesk d = desk(text);
-        d.begin();
-        d.sample();
-        return d;
-    }
-
-    private static KeyDesk shortened(String text) {
-        KeyDesk d = sampled(text);
-        for (int k = 0; k < 6; k++) {
-            d.pass();
-        }
-        d.check();
-        d.shorten();
-        return d;
-    }
-
-    private static String counts(KeyDesk d) {
-        StringBuilder s = new StringBuilder();
-        for (int what = 0; what <= 16; what++) {
-            s.append(d.count(what)).append(' ');
-        }
-        return s.toString().trim();
-    }
-
-    private static String told(KeyDesk d, int k) {
-        return d.ledger(k, 0) + " " + d.ledger(k, 1) + " " + d.ledger(k, 2) + " " + d.ledger(k, 3);
-    }
 
     private static void promise1() {
         KeyDesk d = new KeyDesk();
@@ -1056,15 +987,6 @@ public final class PromiseTest {
             KeyDesk e = shortened(WHOLE.replace("noise 30", "noise " + noise));
             due("29: not by " + noise, e.count(0) == 5 && alikeAtLast(e), false);
         }
-    }
-
-    private static boolean alikeAtLast(KeyDesk d) {
-        for (int i = 0; i < d.count(7); i++) {
-            if (d.last(0, i) != d.last(1, i)) {
-                return false;
-            }
-        }
-        return true;
     }
 
     private static void promise30() {
