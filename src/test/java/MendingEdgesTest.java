@@ -316,6 +316,45 @@ public final class MendingEdgesTest extends Desks {
         due("met", met, 2);
     }
 
+    @Sentence(promise = 10, words = "(of all PASSES so far,")
+    static void p10_lateInAllPassesSoFar() {
+        // In pass 3 one of pass 2 alone is unlike: two places share their blocks in passes 0, 1 and 3.
+        int met = 0;
+        for (int seed = seedWith(20, 0), k = 0; k < TRIES && met < 2; k++, seed = seedWith(20, seed + 1)) {
+            KeyDesk d = sampled(planWith(20, seed, "sample 0;block 2;passes 4"));
+            Draws draws = drawsOf(d);
+            int[][] orders = {draws.shuffled(20), draws.shuffled(20), draws.shuffled(20)};
+            int pair = pairApartInPass2(orders);
+            if (pair == NONE) {
+                continue;
+            }
+            met++;
+            d.pass();
+            d.pass();
+            d.pass();
+            due("ten, five and three blocks", d.count(4), 18);
+            d.slip(pair);
+            d.slip(pair + 1);
+            d.slip(orders[2][0]);
+            due("all three", d.pass(), 3);
+            due("asked, four halves, then of pass 2", origins(d, 18).substring(0, 11), "3 3 3 3 3 2");
+        }
+        due("met", met, 2);
+    }
+
+    /** The first of two, in one block of passes 0 and 1, not of 2, both in the last block of 3; or NONE. */
+    private static int pairApartInPass2(int[][] orders) {
+        for (int pair = 0; pair < 20; pair += 2) {
+            boolean first = at(orders[0], pair) / 4 == at(orders[0], pair + 1) / 4;
+            boolean second = at(orders[1], pair) / 8 != at(orders[1], pair + 1) / 8;
+            boolean third = at(orders[2], pair) >= 16 && at(orders[2], pair + 1) >= 16;
+            if (first && second && third) {
+                return pair;
+            }
+        }
+        return NONE;
+    }
+
     /** Two of a block of pass 0, one in the last block of pass 1, one not, both last in pass 2. */
     private static int[] pairApart(int[] first, int[] second) {
         for (int k = 16; k < 20; k++) {

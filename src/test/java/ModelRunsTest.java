@@ -145,6 +145,33 @@ public final class ModelRunsTest {
         return !pair.wrong;
     }
 
+    /** Small blocks, and before each pass pairs that blocks of the passes ahead do not see. */
+    private static boolean stepsBack(int number) {
+        Dice dice = new Dice(5000 + number);
+        Pair pair = new Pair();
+        pair.plan("signals " + dice.of(20, 40, 80, 256) + ";seed " + dice.below(1000) + ";noise 0;sample 0;block "
+            + dice.between(2, 5) + ";passes 6");
+        pair.same("begin", pair.desk.begin(), pair.model.begin());
+        pair.same("sample", pair.desk.sample(), pair.model.sample());
+        for (int pass = 0; pass < 6; pass++) {
+            for (int k = dice.below(6); k > 0 && pair.desk.count(1) > 1; k--) {
+                int place = dice.below(pair.desk.count(1) - 1);
+                pair.same("slip", pair.desk.slip(place), pair.model.slip(place));
+                if (!dice.oneIn(4)) {
+                    pair.same("slip", pair.desk.slip(place + 1), pair.model.slip(place + 1));
+                }
+            }
+            pair.same("pass", pair.desk.pass(), pair.model.pass());
+            pair.same("told", pair.desk.count(4), pair.model.count(4));
+        }
+        for (int k = 0; k < pair.desk.count(4); k++) {
+            for (int what = 0; what < 4; what++) {
+                pair.same("ledger(" + k + ", " + what + ")", pair.desk.ledger(k, what), pair.model.ledger(k, what));
+            }
+        }
+        return !pair.wrong;
+    }
+
     /** Begins anew, and comes back by an image and by undoing: nothing of the old may be lost. */
     private static void otherwise(Pair pair, Dice dice) {
         pair.same("image", pair.desk.image(0), pair.model.image(0));
@@ -183,6 +210,9 @@ public final class ModelRunsTest {
         }
         for (int number = 0; number < runs / 4 && good; number++) {
             good = whole(number);
+        }
+        for (int number = 0; number < runs && good; number++) {
+            good = stepsBack(number);
         }
         System.out.println(good ? "the model and the class agree" : "the model and the class differ");
         if (!good) {
